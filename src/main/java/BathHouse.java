@@ -1,4 +1,4 @@
-/** A town bath through one day. The document's terms are its own words, here in plain letters. */
+/** A town bath through one day; ../shared/DOC.md says what each call answers. */
 public final class BathHouse {
     public static final int NONE = -1;
 

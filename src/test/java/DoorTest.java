@@ -178,6 +178,23 @@ public final class DoorTest {
         due.is(x.may(7), 0);
         due.is(x.in(7), 0);
         due.is(x.may(8), 5);
+        schoolWithoutTeacher();
+    }
+
+    private static void schoolWithoutTeacher() {
+        BathHouse x = new BathHouse();
+        x.pool(0, 50, 4, 0);
+        x.club(0, 1, 0, 100, 1);
+        x.ticket(0, 3, 0, true);
+        x.ticket(0, 3, 0, false);
+        x.ticket(0, 3, 0, false);
+        due.is(x.in(0), 0);
+        due.is(x.in(1), 0);
+        due.is(x.may(2), 5);
+        due.is(x.out(1), 0);
+        due.is(x.may(2), 0);
+        due.is(x.out(0), 0);
+        due.is(x.may(2), 5);
     }
 
     private static void mayWatcher() {
