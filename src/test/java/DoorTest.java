@@ -189,6 +189,10 @@ public final class DoorTest {
         x.ticket(0, 3, 0, false);
         x.ticket(0, 3, 0, false);
         due.is(x.in(0), 0);
+        due.is(x.out(0), 0);
+        due.is(x.in(1), 5);
+        x.go(1);
+        due.is(x.in(0), 0);
         due.is(x.in(1), 0);
         due.is(x.may(2), 5);
         due.is(x.out(1), 0);
