@@ -675,6 +675,7 @@ public final class BathHouse {
         final boolean isTeacher;
         boolean isIn;
         int cameAt = NONE;
+        int cameWith;
         int timesIn;
         int owed;
         int locker = NONE;
@@ -706,6 +707,8 @@ public final class BathHouse {
         void comeIn(int now) {
             isIn = true;
             cameAt = now;
+            // Kept from here on: a club that is given up later takes nothing from those that are in.
+            cameWith = club != null ? club.to - now : minutes;
             timesIn++;
             if (club != null) {
                 club.pass(isTeacher, 1);
@@ -725,8 +728,7 @@ public final class BathHouse {
             if (!isIn || kind != HOUR_KIND && club == null) {
                 return 0;
             }
-            int end = club != null ? club.to : cameAt + minutes;
-            return end - now - 1;
+            return cameAt + cameWith - now - 1;
         }
 
         int owes(int now) {

@@ -313,9 +313,8 @@ public final class DayTest {
         due.is(x.leave(0), true);
         due.is(x.count(0, 5), 2);
         due.is(x.club(0, 1, 0, 1440, 0), 3);
-        // It had the minutes to its club's end, and that is here now.
-        due.is(x.told(0, 7), -1);
-        due.is(x.out(0), 20);
+        due.is(x.out(0), 0);
+        due.is(x.in(0), 2);
         due.is(x.leave(2), true);
         x.go(9);
         due.is(x.leave(1), true);

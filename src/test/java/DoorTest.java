@@ -15,6 +15,7 @@ public final class DoorTest {
         outLimit();
         outOwes();
         outOwesClub();
+        outOfGivenUpClub();
         eyes();
         spanSeen();
         spanOff();
@@ -347,12 +348,33 @@ public final class DoorTest {
         due.is(x.out(1), 20);
         x.go(1);
         due.is(x.out(2), 40);
-        // Given up, a club ends there for those that are in too.
-        due.is(x.leave(2), true);
-        due.is(x.told(3, 7), -1);
+        due.is(x.out(3), 0);
+    }
+
+    private static void outOfGivenUpClub() {
+        due.part("promise 10: a club given up");
+        BathHouse x = new BathHouse();
+        x.pool(0, 10, 4, 0);
+        x.club(0, 1, 10, 40, 0);
+        x.club(0, 2, 10, 40, 1);
+        x.ticket(0, 2, 0, false);
+        x.ticket(0, 3, 1, true);
+        x.ticket(0, 3, 1, false);
+        x.go(20);
+        due.is(x.in(0), 0);
+        due.is(x.in(1), 0);
+        due.is(x.in(2), 0);
+        x.go(5);
+        due.is(x.leave(0), true);
+        due.is(x.leave(1), true);
+        // They came in with 20 minutes, and keep them.
+        x.go(14);
+        due.is(x.out(0), 0);
+        due.is(x.in(0), 2);
+        x.go(1);
+        due.is(x.out(1), 20);
         x.go(15);
-        due.is(x.told(3, 7), -16);
-        due.is(x.out(3), 40);
+        due.is(x.out(2), 40);
     }
 
     private static void eyes() {

@@ -9,6 +9,7 @@ public final class HouseTest {
         lockersLost();
         told();
         toldMinutes();
+        toldMinutesOfGivenUpClub();
         toldOwed();
         pumps();
         prices();
@@ -198,6 +199,34 @@ public final class HouseTest {
         due.is(x.told(1, 7), 19);
         due.is(x.out(2), 20);
         due.is(x.told(2, 7), 0);
+    }
+
+    private static void toldMinutesOfGivenUpClub() {
+        due.part("promise 25: minutes when the club is given up");
+        BathHouse x = new BathHouse();
+        x.pool(0, 10, 4, 0);
+        x.club(0, 1, 0, 20, 0);
+        x.club(0, 2, 5, 20, 1);
+        x.ticket(0, 2, 0, false);
+        x.ticket(0, 3, 1, true);
+        due.is(x.in(0), 0);
+        due.is(x.leave(0), true);
+        due.is(x.told(0, 7), 19);
+        x.go(6);
+        due.is(x.told(0, 7), 13);
+        due.is(x.in(1), 0);
+        due.is(x.leave(1), true);
+        due.is(x.told(1, 7), 13);
+        x.go(13);
+        due.is(x.told(0, 7), 0);
+        due.is(x.told(1, 7), 0);
+        x.go(1);
+        due.is(x.told(0, 7), -1);
+        due.is(x.told(1, 7), -1);
+        due.is(x.out(1), 20);
+        due.is(x.told(1, 5), 20);
+        due.is(x.told(1, 7), 0);
+        due.is(x.all(4), 20);
     }
 
     private static void toldOwed() {

@@ -419,11 +419,23 @@ public final class ModelTest {
         }
 
         private int beyond(int t) {
-            int kind = kind(t);
-            int a = numbered("ticket", t).a[2];
             int m = lastIn(t).minute;
-            int n = kind == 1 ? a : clubEnd(a) - m;
+            int n = kind(t) == 1 ? numbered("ticket", t).a[2] : clubMinutes(t);
             return now - m - n + 1;
+        }
+
+        /** The minutes to the end of a ticket's club, as it stood when the ticket came in last. */
+        private int clubMinutes(int t) {
+            int c = numbered("ticket", t).a[2];
+            Event in = lastIn(t);
+            int end = numbered("club", c).a[3];
+            for (Event e : history) {
+                if (e == in) {
+                    break;
+                }
+                end = e.is("leave") && e.a[0] == c ? e.minute : end;
+            }
+            return end - in.minute;
         }
 
         private boolean isTimed(int t) {
