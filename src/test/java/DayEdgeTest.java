@@ -48,6 +48,7 @@ public final class DayEdgeTest {
         othersAreNotLookedAt();
         clubTicketNeedsAClubOfItsPool();
         clubTicketIsOfNoSchool();
+        clubThatEndedHasTicketsStill();
         schoolTicketIsOfASchool();
         refusedTicketTakesNoNumber();
     }
@@ -61,6 +62,7 @@ public final class DayEdgeTest {
         clubPupilsAreZeroToThirty();
         clubIsThereFromFirstToAheadOfSecond();
         clubTakesLanesWhileItIsThere();
+        clubsTakeLanesTogether();
         clubHasMinutesToItsEnd();
         refusedClubTakesNoNumber();
     }
@@ -398,6 +400,26 @@ public final class DayEdgeTest {
         due.is(x.ticket(0, 2, 2, false), 0);
     }
 
+    private static void clubThatEndedHasTicketsStill() {
+        due.part("4: a is a CLUB of p: one that has ended, or was given up, is one still");
+        BathHouse x = house();
+        x.club(0, 1, 0, 5, 0);
+        x.club(0, 2, 0, 20, 0);
+        x.club(0, 4, 10, 20, 0);
+        x.club(0, 8, 10, 20, 1);
+        x.go(5);
+        for (int c = 1; c < 4; c++) {
+            due.is(x.leave(c), true);
+        }
+        for (int c = 0; c < 4; c++) {
+            due.is(x.ticket(0, c == 3 ? 3 : 2, c, true), c);
+            due.is(x.may(c), 2);
+        }
+        x.go(5);
+        due.is(x.may(2), 2);
+        due.is(x.may(3), 2);
+    }
+
     private static void schoolTicketIsOfASchool() {
         due.part("4: a SCHOOL of p, teacher or not");
         BathHouse x = house();
@@ -561,6 +583,24 @@ public final class DayEdgeTest {
         due.is(x.count(0, 5), 3);
         x.go(1);
         due.is(x.count(0, 5), 4);
+    }
+
+    private static void clubsTakeLanesTogether() {
+        due.part("13: LANES that are no CLUB's NOW: of several CLUBS, of all LANES");
+        BathHouse x = house();
+        x.pool(1, 10, 8, 0);
+        x.club(0, 5, 0, 10, 0);
+        x.club(0, 2, 0, 10, 3);
+        x.club(1, 192, 0, 10, 0);
+        due.is(x.count(0, 5), 1);
+        due.is(x.count(1, 5), 6);
+        x.club(0, 8, 0, 10, 0);
+        due.is(x.count(0, 5), 0);
+        x.leave(1);
+        due.is(x.count(0, 5), 1);
+        x.go(10);
+        due.is(x.count(0, 5), 4);
+        due.is(x.count(1, 5), 8);
     }
 
     private static void clubHasMinutesToItsEnd() {

@@ -35,6 +35,7 @@ public final class DoorEdgeTest {
         mayIsZeroElse();
         oneIfItIsIn();
         twoIfASeasonWasIn();
+        seasonThatWasRefusedWasNotIn();
         twoIfItsClubIsNotThere();
         threeIfThePoolIsShut();
         fourIfMostIsHeadsOrMore();
@@ -67,6 +68,7 @@ public final class DoorEdgeTest {
         watcherComesIntoAFullPool();
         watcherComesNotInTwice();
         watcherComesInWithinTheDoorsLimit();
+        watcherGoesOutWithinTheDoorsLimit();
     }
 
     private static void doors() {
@@ -77,6 +79,7 @@ public final class DoorEdgeTest {
         doorIsFreeInTheNextMinute();
         whoIsRefusedDoesNotCount();
         handAndEyeLeaveTheDoorsLimit();
+        handAndEyeLeaveTheLimitOfGoingOut();
     }
 
     private static void owed() {
@@ -100,6 +103,7 @@ public final class DoorEdgeTest {
         watchersAreSeen();
         bothAreMoreByWhoCameLessByWhoWent();
         leastIsNotBelowZeroWhileSeen();
+        leastIsReckonedByTheMinute();
         leastIsThreeLessWhileOff();
         mostIsThreeMoreWhileOff();
         eachMinuteIsReckoned();
@@ -241,6 +245,20 @@ public final class DoorEdgeTest {
         due.is(x.may(1), 0);
         step(x, 1339);
         due.is(x.may(0), 2);
+    }
+
+    private static void seasonThatWasRefusedWasNotIn() {
+        due.part("SEASON: that may come in once: a refused one did not");
+        BathHouse x = house(10);
+        x.ticket(0, SEASON, 0, false);
+        x.put(0, 1);
+        due.is(x.in(0), 3);
+        due.is(x.may(0), 3);
+        x.go(1);
+        due.is(x.in(0), 0);
+        due.is(x.in(0), 1);
+        x.out(0);
+        due.is(x.in(0), 2);
     }
 
     private static void twoIfItsClubIsNotThere() {
@@ -585,6 +603,25 @@ public final class DoorEdgeTest {
         due.is(x.count(0, 3), 4);
     }
 
+    private static void watcherGoesOutWithinTheDoorsLimit() {
+        due.part("at most 3 go out: WATCHERS too");
+        BathHouse x = house(10);
+        for (int t = 0; t < 4; t++) {
+            x.ticket(0, t == 0 ? DAY : WATCHER, 0, false);
+        }
+        comeIn(x, 0, 2);
+        x.go(1);
+        comeIn(x, 3, 3);
+        for (int t = 0; t < 3; t++) {
+            due.is(x.out(t), 0);
+        }
+        due.is(x.out(3), -2);
+        due.is(x.count(0, 3), 1);
+        x.go(1);
+        due.is(x.out(3), 0);
+        due.is(x.count(0, 3), 0);
+    }
+
     private static void threeComeInInAMinute() {
         due.part("at most 3 come in");
         BathHouse x = days(10, 4);
@@ -696,6 +733,26 @@ public final class DoorEdgeTest {
         x.go(1);
         due.is(x.hand(0), 0);
         due.is(x.in(3), 0);
+    }
+
+    private static void handAndEyeLeaveTheLimitOfGoingOut() {
+        due.part("3 go out in one MINUTE, whatever is counted by hand");
+        BathHouse x = days(10, 4);
+        comeIn(x, 0, 2);
+        x.go(1);
+        comeIn(x, 3, 3);
+        for (int t = 0; t < 3; t++) {
+            due.is(x.out(t), 0);
+        }
+        due.is(x.hand(0), 1);
+        due.is(x.out(3), -2);
+        x.eye(0, false);
+        due.is(x.out(3), -2);
+        x.eye(0, true);
+        x.hand(0);
+        due.is(x.out(3), -2);
+        x.go(1);
+        due.is(x.out(3), 0);
     }
 
     private static int owedAfter(int kind, int a, boolean teacher, int cameAt, int stay) {
@@ -866,6 +923,27 @@ public final class DoorEdgeTest {
         comeIn(x, 0, 0);
         // From 0 on again, not from 2 below it.
         span(x, 1, 2);
+    }
+
+    private static void leastIsReckonedByTheMinute() {
+        due.part("SPAN: LEAST not below 0: by all who came and went in a MINUTE");
+        BathHouse x = days(50, 3);
+        comeIn(x, 0, 1);
+        x.eye(0, false);
+        x.eye(0, true);
+        x.go(1);
+        x.out(0);
+        span(x, 0, 2);
+        // One went and one came: LEAST is as it was, not one more.
+        x.in(0);
+        span(x, 0, 3);
+        x.out(1);
+        span(x, 0, 2);
+        x.in(1);
+        x.in(2);
+        span(x, 1, 4);
+        x.go(1);
+        span(x, 1, 4);
     }
 
     private static void leastIsThreeLessWhileOff() {
@@ -1099,15 +1177,19 @@ public final class DoorEdgeTest {
         BathHouse x = house(50);
         x.pool(1, 50, 4, 0);
         x.ticket(1, DAY, 0, false);
-        x.in(0);
+        due.is(x.in(0), 0);
         x.eye(0, false);
         x.eye(1, false);
-        due.is(x.hand(1), 1);
+        x.go(2);
         x.eye(1, true);
         due.is(x.hand(1), 1);
+        due.is(x.count(1, 0), 1);
         due.is(x.count(1, 1), 1);
-        span(x, 0, 3);
+        span(x, 0, 9);
+        x.eye(0, true);
         due.is(x.hand(0), 0);
+        span(x, 0, 0);
+        due.is(x.count(1, 1), 1);
     }
 
     private static void countNeedsAPool() {

@@ -58,7 +58,10 @@ public final class FaceTest {
         }
         for (Field f : BathHouse.class.getDeclaredFields()) {
             check(Modifier.isPrivate(f.getModifiers()) || f.getName().equals("NONE"), f + " is private");
+            int open = Modifier.PUBLIC | Modifier.STATIC | Modifier.FINAL;
+            check(!f.getName().equals("NONE") || f.getType() == int.class && f.getModifiers() == open, f + " is the face's");
         }
+        check(BathHouse.NONE == -1, "NONE is " + BathHouse.NONE);
         Constructor<?>[] made = BathHouse.class.getDeclaredConstructors();
         check(made.length == 1 && made[0].getModifiers() == Modifier.PUBLIC && made[0].getParameterCount() == 0, "its constructor");
     }

@@ -38,6 +38,7 @@ public final class WaterEdgeTest {
         measureIsNotBelowThousandBelow();
         measureIsCutTowardsZero();
         whatIsNotMeasuredIsNoMeasure();
+        whatIsNotMeasuredLeavesTheLatest();
         eachCountsAsMeasuredAndRightAtFirst();
         eachCountsAsMeasuredInMinuteZero();
         latestMeasureCounts();
@@ -331,6 +332,23 @@ public final class WaterEdgeTest {
         due.is(x.shut(0), 9);
     }
 
+    private static void whatIsNotMeasuredLeavesTheLatest() {
+        due.part("15: the latest one is still that ahead of it");
+        for (float v : new float[] {Float.NaN, 2000f, -2000f, Float.POSITIVE_INFINITY, Float.NEGATIVE_INFINITY}) {
+            for (int thing = 0; thing < 3; thing++) {
+                BathHouse x = house(0);
+                x.measure(0, thing, 0.5f);
+                due.is(x.measure(0, thing, v), -200000);
+                due.is(x.shut(0), 0);
+                x.bounds(0, thing, 50, 50);
+                due.is(x.shut(0), 0);
+                x.measure(0, thing, 0.75f);
+                due.is(x.measure(0, thing, v), -200000);
+                due.is(x.shut(0), 1 << thing);
+            }
+        }
+    }
+
     private static void eachCountsAsMeasuredAndRightAtFirst() {
         due.part("THINGS: at first each counts as measured, and right");
         BathHouse x = house(0);
@@ -543,16 +561,18 @@ public final class WaterEdgeTest {
 
     private static void putWithinWhatWasPutInBefore() {
         due.part("16: or within it");
-        BathHouse x = house(0);
-        x.put(0, 10);
-        due.is(x.put(0, 1), true);
-        x.go(5);
-        due.is(x.put(0, 4), true);
-        due.is(x.put(0, 5), true);
-        x.go(4);
-        due.is(x.shut(0), 16);
-        x.go(1);
-        due.is(x.shut(0), 0);
+        for (int later = 1; later <= 5; later++) {
+            BathHouse x = house(0);
+            x.put(0, 10);
+            x.go(5);
+            due.is(x.put(0, later), true);
+            for (int minute = 5; minute < 10; minute++) {
+                due.is(x.shut(0), 16);
+                x.go(1);
+            }
+            due.is(x.shut(0), 0);
+            due.is(x.minutes(0), 10);
+        }
     }
 
     private static void putAgainWhenItIsOver() {
